@@ -579,24 +579,24 @@ public final class MinedLedger {
         }
 
         void include(int word) {
-            int first = stirred(word, FIRST_SEED);
-            int second = stirred(word, SECOND_SEED);
             for (int i = 0; i < BITS_OF_WORD; i++) {
-                int bit = (first + i * second) & (BITS - 1);
+                int bit = bitOf(word, i);
                 bits[bit >>> 5] |= 1 << (bit & 31);
             }
         }
 
         boolean mayHave(int word) {
-            int first = stirred(word, FIRST_SEED);
-            int second = stirred(word, SECOND_SEED);
             for (int i = 0; i < BITS_OF_WORD; i++) {
-                int bit = (first + i * second) & (BITS - 1);
+                int bit = bitOf(word, i);
                 if ((bits[bit >>> 5] & (1 << (bit & 31))) == 0) {
                     return false;
                 }
             }
             return true;
+        }
+
+        private static int bitOf(int word, int i) {
+            return (stirred(word, FIRST_SEED) + i * stirred(word, SECOND_SEED)) & (BITS - 1);
         }
 
         /** STIR. */
