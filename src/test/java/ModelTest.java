@@ -4,6 +4,7 @@ import java.util.Random;
 /** Runs of calls, chosen by fixed seeds, in which the program must answer as the model does. */
 public final class ModelTest {
     private static final int CALLS = 512;
+    private static final int LONGEST_STEP = 24;
     private static final int[] EDGES = {
         Integer.MIN_VALUE, -26, -2, -1, 0, 1, 7, 8, 9, 20, 21, 25, 26, 33, 34, 59, 60, 61, 100, 101,
         1559, 1560, 3000, 3001, Integer.MAX_VALUE,
@@ -37,7 +38,7 @@ public final class ModelTest {
     private void run() {
         // Runs differ in how often they do harm, so that some grow long and clean ledgers.
         int harm = seed % 4;
-        while (calls < CALLS && checks.wrong() == 0) {
+        while (calls + LONGEST_STEP <= CALLS && checks.wrong() == 0) {
             int kind = random.nextInt(100);
             if (kind < 40) {
                 append();
