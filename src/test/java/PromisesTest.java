@@ -1,18 +1,5 @@
-import java.util.Arrays;
-
 /** Each promise of the document by itself: ordinary inputs, edges and wrong inputs. */
-public final class PromisesTest {
-    private static final int NONE = MinedLedger.NONE;
-    private static final int BAD = MinedLedger.BAD;
-    private static final int REFUSED = MinedLedger.REFUSED;
-    private static final int FULL = MinedLedger.FULL;
-    private static final int CLEAN = MinedLedger.CLEAN;
-    private static final int LOWEST = Integer.MIN_VALUE;
-    private static final int HIGHEST = Integer.MAX_VALUE;
-
-    private final Checks checks = new Checks();
-    private String promise = "";
-
+public final class PromisesTest extends LedgerChecks {
     public static void main(String[] args) {
         PromisesTest test = new PromisesTest();
         test.newObject();
@@ -49,59 +36,11 @@ public final class PromisesTest {
         test.forge();
         test.check();
         test.checkLinkOrSkip();
-        test.checks.end("PromisesTest");
-    }
-
-    private void due(String call, int got, int want) {
-        checks.due(promise + ": " + call, got, want);
-    }
-
-    /** A ledger of difficulty 0 with so many entries; entry e has the word 100 + e. */
-    private MinedLedger grown(int entries) {
-        MinedLedger x = new MinedLedger(0);
-        for (int e = 0; e < entries; e++) {
-            x.put(100 + e);
-            append(x, e);
-        }
-        return x;
-    }
-
-    private void append(MinedLedger x, int number) {
-        int nonce = NONE;
-        for (int k = 0; k < 40 && nonce == NONE; k++) {
-            nonce = x.mine(3000);
-        }
-        due("commit()", x.commit(), number);
-    }
-
-    private static int[] cells(MinedLedger x, int e, int from, int to) {
-        int[] cells = new int[to - from];
-        for (int i = from; i < to; i++) {
-            cells[i - from] = x.cell(e, i);
-        }
-        return cells;
-    }
-
-    private static int[] heads(MinedLedger x) {
-        int[] words = new int[8];
-        Arrays.setAll(words, x::head);
-        return words;
-    }
-
-    private void same(String what, int[] got, int[] want) {
-        due(what + " " + Arrays.toString(got) + " as " + Arrays.toString(want), Arrays.equals(got, want) ? 1 : 0, 1);
-    }
-
-    /** Entry e gets the hash that its other cells have. */
-    private static void rehash(MinedLedger x, int e) {
-        int[] hash = Reference.hash(cells(x, e, 0, 26));
-        for (int i = 0; i < 8; i++) {
-            x.spoil(e, 26 + i, hash[i]);
-        }
+        test.end();
     }
 
     private void newObject() {
-        promise = "promise 1";
+        about("promise 1");
         int[][] asked = {{LOWEST, 0}, {-1, 0}, {0, 0}, {1, 1}, {19, 19}, {20, 20}, {21, 20}, {HIGHEST, 20}};
         for (int[] pair : asked) {
             MinedLedger x = new MinedLedger(pair[0]);
@@ -118,7 +57,7 @@ public final class PromisesTest {
     }
 
     private void put() {
-        promise = "promise 2";
+        about("promise 2");
         MinedLedger x = new MinedLedger(0);
         for (int k = 1; k <= 8; k++) {
             due("put", x.put(k * 11), k);
@@ -137,7 +76,7 @@ public final class PromisesTest {
     }
 
     private void takeBack() {
-        promise = "promise 3";
+        about("promise 3");
         MinedLedger x = new MinedLedger(0);
         due("takeBack(1) of none", x.takeBack(1), BAD);
         for (int k = 1; k <= 8; k++) {
@@ -164,7 +103,7 @@ public final class PromisesTest {
     }
 
     private void pending() {
-        promise = "promise 4";
+        about("promise 4");
         MinedLedger x = new MinedLedger(0);
         due("pending(0)", x.pending(0), 0);
         for (int k = 0; k < 8; k++) {
@@ -183,7 +122,7 @@ public final class PromisesTest {
     }
 
     private void difficulty() {
-        promise = "promise 5";
+        about("promise 5");
         MinedLedger x = new MinedLedger(3);
         due("difficulty(20)", x.difficulty(20), 3);
         due("difficulty(0)", x.difficulty(0), 20);
@@ -203,7 +142,7 @@ public final class PromisesTest {
     }
 
     private void mine() {
-        promise = "promise 6";
+        about("promise 6");
         MinedLedger x = new MinedLedger(0);
         for (int n : new int[] {LOWEST, -1, 0, 3001, HIGHEST}) {
             due("mine(" + n + ")", x.mine(n), BAD);
@@ -230,7 +169,7 @@ public final class PromisesTest {
     }
 
     private void mineAllNonces() {
-        promise = "promise 6, all nonces";
+        about("promise 6, all nonces");
         MinedLedger x = new MinedLedger(20);
         x.put(1);
         for (int k = 0; k < 33; k++) {
@@ -250,7 +189,7 @@ public final class PromisesTest {
     }
 
     private void mineTheLastNonce() {
-        promise = "promise 6, the last nonce";
+        about("promise 6, the last nonce");
         MinedLedger x = new MinedLedger(17);
         // Found by a search: the first nonce that does for this word is 99999.
         x.put(384324);
@@ -266,7 +205,7 @@ public final class PromisesTest {
     }
 
     private void mineAsItWouldBeNow() {
-        promise = "promise 6, as it would be now";
+        about("promise 6, as it would be now");
         MinedLedger x = grown(4);
         x.put(77);
         x.spoil(3, 26, 5);
@@ -286,7 +225,7 @@ public final class PromisesTest {
     }
 
     private void tried() {
-        promise = "promise 7";
+        about("promise 7");
         MinedLedger x = grown(2);
         due("tried() after commit", x.tried(), 0);
         x.difficulty(20);
@@ -324,7 +263,7 @@ public final class PromisesTest {
     }
 
     private void commit() {
-        promise = "promise 8";
+        about("promise 8");
         due("commit() of a new one", new MinedLedger(5).commit(), REFUSED);
         for (int e = 0; e < 20; e++) {
             commitOf(e);
@@ -363,7 +302,7 @@ public final class PromisesTest {
     }
 
     private void commitFull() {
-        promise = "promise 8, full";
+        about("promise 8, full");
         MinedLedger x = grown(60);
         due("commit() without a nonce", x.commit(), FULL);
         x.put(4);
@@ -383,7 +322,7 @@ public final class PromisesTest {
     }
 
     private void count() {
-        promise = "promise 9";
+        about("promise 9");
         for (int n : new int[] {0, 1, 2, 59, 60}) {
             due("count()", grown(n).count(), n);
         }
@@ -396,7 +335,7 @@ public final class PromisesTest {
     }
 
     private void head() {
-        promise = "promise 10";
+        about("promise 10");
         MinedLedger x = new MinedLedger(0);
         same("head of none", heads(x), new int[8]);
         for (int e = 0; e < 5; e++) {
@@ -415,7 +354,7 @@ public final class PromisesTest {
     }
 
     private void cell() {
-        promise = "promise 11";
+        about("promise 11");
         MinedLedger x = grown(3);
         due("cell(2, 16)", x.cell(2, 16), 102);
         due("cell(2, 24)", x.cell(2, 24), 1);
@@ -432,7 +371,7 @@ public final class PromisesTest {
     }
 
     private void spoil() {
-        promise = "promise 12";
+        about("promise 12");
         MinedLedger x = grown(3);
         for (int i = 0; i < 34; i++) {
             int was = x.cell(1, i);
@@ -457,7 +396,7 @@ public final class PromisesTest {
     }
 
     private void drop() {
-        promise = "promise 13";
+        about("promise 13");
         MinedLedger x = new MinedLedger(0);
         due("drop() of none", x.drop(), NONE);
         x = grown(5);
@@ -497,7 +436,7 @@ public final class PromisesTest {
     }
 
     private void may() {
-        promise = "promise 14";
+        about("promise 14");
         MinedLedger x = new MinedLedger(0);
         due("may(0)", x.may(0), 0);
         x.put(5);
@@ -528,7 +467,7 @@ public final class PromisesTest {
     }
 
     private void find() {
-        promise = "promise 15";
+        about("promise 15");
         MinedLedger x = new MinedLedger(0);
         due("find(0)", x.find(0), NONE);
         for (int e = 0; e < 10; e++) {
@@ -558,7 +497,7 @@ public final class PromisesTest {
     }
 
     private void findBehindTheLast() {
-        promise = "promise 15, behind the last entry";
+        about("promise 15, behind the last entry");
         MinedLedger x = new MinedLedger(0);
         for (int e = 0; e < 2; e++) {
             x.put(5);
@@ -576,7 +515,7 @@ public final class PromisesTest {
     }
 
     private void stir() {
-        promise = "promise 16";
+        about("promise 16");
         MinedLedger x = new MinedLedger(0);
         // Values of MurmurHash3 that others have published.
         due("stir of 'test'", x.stir(0x74736574, 0), 0xba6bd213);
@@ -593,7 +532,7 @@ public final class PromisesTest {
     }
 
     private void begin() {
-        promise = "promise 17";
+        about("promise 17");
         MinedLedger x = grown(5);
         due("begin()", x.begin(), 0);
         x.audit(3);
@@ -611,7 +550,7 @@ public final class PromisesTest {
     }
 
     private void audit() {
-        promise = "promise 18";
+        about("promise 18");
         MinedLedger x = new MinedLedger(0);
         due("audit(1) of none", x.audit(1), CLEAN);
         x = grown(5);
@@ -644,7 +583,7 @@ public final class PromisesTest {
     }
 
     private void auditPlaceAndDrop() {
-        promise = "promise 18, a drop";
+        about("promise 18, a drop");
         MinedLedger x = grown(5);
         x.audit(100);
         x.drop();
@@ -660,7 +599,7 @@ public final class PromisesTest {
     }
 
     private void faultsOfEntries() {
-        promise = "promise 19, faults 1 to 3";
+        about("promise 19, faults 1 to 3");
         int[][] rows = {{0, 0, 1}, {0, 7, 1}, {0, 8, 2}, {0, 15, 2}, {0, 16, 3}, {0, 25, 3}, {0, 26, 3}, {0, 33, 3},
             {4, 0, 1}, {4, 7, 1}, {4, 8, 2}, {4, 15, 2}, {4, 23, 3}, {4, 24, 3}, {4, 26, 3}, {4, 33, 3}, {5, 33, 3}};
         for (int[] row : rows) {
@@ -693,7 +632,7 @@ public final class PromisesTest {
     }
 
     private void faultsOfZeros() {
-        promise = "promise 19, fault 4";
+        about("promise 19, fault 4");
         MinedLedger x = grown(2);
         // The least mark under which the hash has too few zeros, and the one before it.
         int mark = 0;
@@ -725,7 +664,7 @@ public final class PromisesTest {
     }
 
     private void faultsOfHead() {
-        promise = "promise 19, faults 5 and 6";
+        about("promise 19, faults 5 and 6");
         MinedLedger x = grown(3);
         x.spoil(2, 7, 1);
         x.drop();
@@ -750,7 +689,7 @@ public final class PromisesTest {
     }
 
     private void faultOfHeadMended() {
-        promise = "promise 19, fault 5 mended";
+        about("promise 19, fault 5 mended");
         MinedLedger x = grown(3);
         x.spoil(2, 7, 1);
         x.drop();
@@ -765,7 +704,7 @@ public final class PromisesTest {
     }
 
     private void way() {
-        promise = "promise 20";
+        about("promise 20");
         MinedLedger x = new MinedLedger(0);
         due("way(0, 0) of none", x.way(0, 0), BAD);
         x = grown(60);
@@ -789,7 +728,7 @@ public final class PromisesTest {
     }
 
     private void prove() {
-        promise = "promise 21";
+        about("promise 21");
         MinedLedger x = new MinedLedger(0);
         due("prove(0) of none", x.prove(0), BAD);
         x = grown(60);
@@ -811,7 +750,7 @@ public final class PromisesTest {
     }
 
     private void proof() {
-        promise = "promise 22";
+        about("promise 22");
         MinedLedger x = grown(23);
         due("proof(0) of none", x.proof(0), 0);
         x.prove(9);
@@ -832,7 +771,7 @@ public final class PromisesTest {
     }
 
     private void forge() {
-        promise = "promise 23";
+        about("promise 23");
         MinedLedger x = grown(6);
         due("forge(0, 5) of none", x.forge(0, 5), 0);
         due("proof(0)", x.proof(0), 0);
@@ -856,7 +795,7 @@ public final class PromisesTest {
     }
 
     private void check() {
-        promise = "promise 24";
+        about("promise 24");
         MinedLedger x = new MinedLedger(0);
         due("check(0) of none", x.check(0), BAD);
         x = grown(14);
@@ -894,7 +833,7 @@ public final class PromisesTest {
 
     /** Entries in which link and skip differ where they need not show which one a step looks at. */
     private void checkLinkOrSkip() {
-        promise = "promise 24, link or skip";
+        about("promise 24, link or skip");
         int[][] steps = {{3, 2, 8}, {2, 1, 0}, {2, 0, 8}, {1, 0, 8}, {6, 5, 0}, {6, 4, 8}};
         for (int[] step : steps) {
             for (int spoiled : new int[] {0, 8}) {
