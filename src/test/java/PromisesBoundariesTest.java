@@ -121,15 +121,16 @@ public final class PromisesBoundariesTest extends LedgerChecks {
     private void pendingNoneSuch() {
         about("4: 0: there is none such");
         for (int words = 0; words <= 8; words++) {
-            MinedLedger x = new MinedLedger(1);
+            // With an entry before and a nonce kept, what stands beside the words is not 0.
+            MinedLedger x = grown(1);
             for (int k = 0; k < words; k++) {
                 x.put(-1 - k);
             }
             for (int i = 0; i < 8; i++) {
                 due("pending(" + i + ") of " + words, x.pending(i), i < words ? -1 - i : 0);
             }
-            x.mine(100);
-            for (int i : new int[] {-1, -17, LOWEST, words, 8, 9, 10, HIGHEST}) {
+            due("mine(1)", x.mine(1), 0);
+            for (int i : new int[] {-1, -2, -16, LOWEST, words, 8, 9, 10, HIGHEST}) {
                 due("pending(" + i + ") of " + words, x.pending(i), 0);
             }
         }
@@ -462,6 +463,20 @@ public final class PromisesBoundariesTest extends LedgerChecks {
         x.drop();
         due("may(0) of no entries", x.may(0), 0);
         due("may(2001) of no entries", x.may(2001), 0);
+        for (int place = 0; place < 32; place++) {
+            int word = wordWithBitsAt(place);
+            due("may(" + word + ") of no entries", x.may(word), 0);
+        }
+    }
+
+    /** A word whose four bits leave the same when 32 divides them. */
+    private static int wordWithBitsAt(int place) {
+        for (int word = 0; word < 1000000; word++) {
+            if (Arrays.stream(Reference.filterBits(word)).allMatch(bit -> bit % 32 == place)) {
+                return word;
+            }
+        }
+        throw new IllegalStateException("no such word");
     }
 
     // ---- promises 14 to 16
@@ -534,6 +549,21 @@ public final class PromisesBoundariesTest extends LedgerChecks {
         due("find(5) with the filter anew", x.find(5), NONE);
         x.drop();
         due("find(6) of no entries", x.find(6), NONE);
+        findBehindTheLast();
+    }
+
+    private void findBehindTheLast() {
+        MinedLedger x = grown(3);
+        x.spoil(2, 17, 100);
+        x.drop();
+        x.spoil(0, 16, 7);
+        due("may(100)", x.may(100), 1);
+        due("find(100), which only a dropped entry had", x.find(100), NONE);
+        x = grown(60);
+        x.spoil(59, 16, 7);
+        due("may(159)", x.may(159), 1);
+        due("find(159) of sixty", x.find(159), NONE);
+        due("find(158) of sixty", x.find(158), 58);
     }
 
     private void stirs() {
@@ -777,10 +807,21 @@ public final class PromisesBoundariesTest extends LedgerChecks {
             due("forge(" + i + ", ..)", x.forge(i, words[i]), 6);
             due("check(1)", x.check(1), 1);
         }
-        x.prove(0);
-        due("proof(26): what was not forged", x.proof(26), x.cell(0, 0));
-        due("forge(51, 5)", x.forge(51, 5), x.cell(0, 25));
-        due("forge(52, 5)", x.forge(52, 5), 0);
+        forgeBehindTheEnd();
+    }
+
+    /** Behind the end stands what a longer proof had there before. */
+    private void forgeBehindTheEnd() {
+        MinedLedger x = grown(4);
+        due("prove(1)", x.prove(1), 78);
+        int was = x.proof(26);
+        due("proof(26)", was, x.cell(2, 0));
+        due("prove(3)", x.prove(3), 26);
+        due("forge(26, 5)", x.forge(26, 5), 0);
+        due("proof(26)", x.proof(26), 0);
+        due("forge(27, 5)", x.forge(27, 5), 0);
+        due("forge(25, 5)", x.forge(25, 5), x.cell(3, 25));
+        due("proof(25)", x.proof(25), 5);
     }
 
     // ---- promise 24

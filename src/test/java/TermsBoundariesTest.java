@@ -502,8 +502,11 @@ public final class TermsBoundariesTest extends LedgerChecks {
                 }
                 append(x, e);
             }
-            int probe = wordMissing(bits, missing);
-            due("may(" + probe + ") with three bits set", x.may(probe), 0);
+            int probe = 1000000;
+            for (int k = 0; k < 100; k++) {
+                probe = wordMissing(bits, missing, probe + 1);
+                due("may(" + probe + ") with three bits set", x.may(probe), 0);
+            }
             int other = wordWithBit(Reference.filterBits(probe)[missing], 0);
             fillWith(x, other);
             append(x, 8);
@@ -518,9 +521,9 @@ public final class TermsBoundariesTest extends LedgerChecks {
         }
     }
 
-    /** A word of whose bits just the one at this place is not set. */
-    private static int wordMissing(boolean[] bits, int missing) {
-        for (int word = 1000000; word < 2000000; word++) {
+    /** The next word of whose bits just the one at this place is not set. */
+    private static int wordMissing(boolean[] bits, int missing, int from) {
+        for (int word = from; word < from + 1000000; word++) {
             int[] own = Reference.filterBits(word);
             boolean fits = true;
             for (int i = 0; i < 4; i++) {
