@@ -6,12 +6,15 @@ import java.lang.reflect.Method;
 import java.lang.reflect.Modifier;
 import java.nio.file.Files;
 import java.nio.file.Path;
+import java.util.ArrayList;
 import java.util.Arrays;
+import java.util.List;
 import java.util.Set;
 import java.util.TreeSet;
+import java.util.regex.Matcher;
 import java.util.regex.Pattern;
 
-/** The class has the document's face and nothing beside it, and keeps from the words that LANGUAGE.md bars. */
+/** The class has the document's face and nothing beside it, and keeps to what of LANGUAGE.md a test can see. */
 public final class FaceTest {
     private static final String[] FACE = {
         "put/1", "takeBack/1", "pending/1", "difficulty/1", "mine/1", "tried/0", "commit/0", "count/0", "head/1",
@@ -20,8 +23,13 @@ public final class FaceTest {
     };
     private static final String[] BARRED = {
         "\\bthrows?\\b", "\\btry\\b", "\\bcatch\\b", "\\bsynchronized\\b", "\\bassert\\b", "\\bpackage\\b",
-        "\\bThread\\b", "\\bRandom\\b", "\\bSystem\\.(?!arraycopy\\b)", "Exact\\b", "->", "::",
+        "\\bThread\\b", "\\bRandom\\b", "\\bObject\\b", "\\bstatic\\s*\\{", "->", "::",
     };
+    /** Of what LANGUAGE.md lists, all that the class needs. */
+    private static final Set<String> LIBRARY = Set.of(
+        "java.util.Arrays", "Arrays.fill", "Integer.numberOfLeadingZeros", "Math.max", "Math.min", "System.arraycopy");
+    /** What of the class's own has parts that are named behind a point. */
+    private static final Set<String> OWN = Set.of("hasher", "filter", "Filter");
 
     private final Checks checks = new Checks();
 
@@ -30,7 +38,10 @@ public final class FaceTest {
         test.constants();
         test.methods();
         test.others();
-        test.barredWords();
+        test.sizes();
+        String code = code();
+        test.barredWords(code);
+        test.library(code);
         test.checks.end("FaceTest");
     }
 
@@ -71,7 +82,6 @@ public final class FaceTest {
         int constants = 0;
         for (Field field : MinedLedger.class.getDeclaredFields()) {
             constants += isPrivate(field) ? 0 : 1;
-            yes(field + " is final or no static one", !isStatic(field) || Modifier.isFinal(field.getModifiers()));
         }
         checks.due("public constants", constants, 5);
         for (Class<?> inside : MinedLedger.class.getDeclaredClasses()) {
@@ -80,11 +90,48 @@ public final class FaceTest {
         }
     }
 
-    private void barredWords() throws IOException {
+    /** LANGUAGE.md's rules 3, 5 and 11, for the class and for those inside it. */
+    private void sizes() {
+        List<Class<?>> classes = new ArrayList<>(List.of(MinedLedger.class));
+        classes.addAll(List.of(MinedLedger.class.getDeclaredClasses()));
+        yes("at most twelve classes", classes.size() <= 12);
+        for (Class<?> each : classes) {
+            int fields = 0;
+            for (Field field : each.getDeclaredFields()) {
+                fields += isStatic(field) ? 0 : 1;
+                yes(field + " is final or no static one", !isStatic(field) || Modifier.isFinal(field.getModifiers()));
+                yes(field + " is private or a constant", isPrivate(field) || isStatic(field));
+                yes(field + " is of a type that is free", hasFreeType(field, classes));
+            }
+            yes(each + " has at most twenty fields", fields <= 20);
+            for (Method method : each.getDeclaredMethods()) {
+                yes(method + " has at most seven parameters", method.getParameterCount() <= 7);
+            }
+        }
+    }
+
+    private static boolean hasFreeType(Field field, List<Class<?>> own) {
+        Class<?> type = field.getType();
+        return type == int.class || type == int[].class || !isStatic(field) && own.contains(type);
+    }
+
+    /** The class's text without comments. */
+    private static String code() throws IOException {
         String text = Files.readString(Path.of("src/main/java/MinedLedger.java"));
-        String code = text.replaceAll("(?s)/\\*.*?\\*/", " ").replaceAll("//[^\n]*", " ");
+        return text.replaceAll("(?s)/\\*.*?\\*/", " ").replaceAll("//[^\n]*", " ");
+    }
+
+    private void barredWords(String code) {
         for (String barred : BARRED) {
             yes("without " + barred, !Pattern.compile(barred).matcher(code).find());
+        }
+    }
+
+    private void library(String code) {
+        Matcher named = Pattern.compile("\\b(\\w+)(\\.\\w+)+").matcher(code);
+        while (named.find()) {
+            boolean known = OWN.contains(named.group(1)) || LIBRARY.contains(named.group());
+            yes("no library but what is listed: " + named.group(), known);
         }
     }
 
